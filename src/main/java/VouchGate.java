@@ -87,8 +87,9 @@ public final class VouchGate {
         if (!mayAct(host) || log.countVouchings() >= MOST_VOUCHINGS) {
             throw new IllegalStateException("may not vouch now");
         }
-        ties.tie(host, guest, rooms, now);
-        log.addVouching(host, guest, rooms, now);
+        ties.tie(host, guest, now);
+        ties.setRooms(guest, rooms);
+        log.addVouching(host, guest, now);
         return log.countVouchings();
     }
 
@@ -394,12 +395,16 @@ public final class VouchGate {
             nextBadge = PERSONS;
         }
 
-        void tie(int host, int guest, int forRooms, int minute) {
+        void tie(int host, int guest, int minute) {
             hosts[guest] = host;
-            rooms[guest] = forRooms;
             minutes[guest] = minute;
             hostBadges[guest] = badges[host];
             bad[guest] = false;
+        }
+
+        /** Rooms stand apart from the tie: taint does not go by them, so the log leaves them out. */
+        void setRooms(int guest, int forRooms) {
+            rooms[guest] = forRooms;
         }
 
         void untie(int guest) {
@@ -497,7 +502,6 @@ public final class VouchGate {
         private final int[] kinds;
         private final int[] persons;
         private final int[] guests;
-        private final int[] rooms;
         private final int[] minutes;
         private int size;
         private int vouchings;
@@ -506,7 +510,6 @@ public final class VouchGate {
             kinds = new int[MOST_EVENTS];
             persons = new int[MOST_EVENTS];
             guests = new int[MOST_EVENTS];
-            rooms = new int[MOST_EVENTS];
             minutes = new int[MOST_EVENTS];
             size = 0;
             vouchings = 0;
@@ -516,32 +519,31 @@ public final class VouchGate {
             return vouchings;
         }
 
-        void addVouching(int host, int guest, int forRooms, int minute) {
-            add(VOUCHING, host, guest, forRooms, minute);
+        void addVouching(int host, int guest, int minute) {
+            add(VOUCHING, host, guest, minute);
             vouchings++;
         }
 
         void addEnding(int guest) {
-            add(ENDING, NONE, guest, 0, 0);
+            add(ENDING, NONE, guest, 0);
         }
 
         void addLoss(int person, int since) {
-            add(LOSS, person, NONE, 0, since);
+            add(LOSS, person, NONE, since);
         }
 
         void addIssue(int person) {
-            add(ISSUE, person, NONE, 0, 0);
+            add(ISSUE, person, NONE, 0);
         }
 
         /** The log holds one event for each promised call; what comes behind them is free, and not kept. */
-        private void add(int kind, int person, int guest, int forRooms, int minute) {
+        private void add(int kind, int person, int guest, int minute) {
             if (size >= MOST_EVENTS) {
                 return;
             }
             kinds[size] = kind;
             persons[size] = person;
             guests[size] = guest;
-            rooms[size] = forRooms;
             minutes[size] = minute;
             size++;
         }
@@ -556,7 +558,7 @@ public final class VouchGate {
         private void replayOne(int event, Ties ties) {
             switch (kinds[event]) {
                 case VOUCHING:
-                    ties.tie(persons[event], guests[event], rooms[event], minutes[event]);
+                    ties.tie(persons[event], guests[event], minutes[event]);
                     break;
                 case ENDING:
                     ties.untie(guests[event]);

@@ -30,6 +30,13 @@ final class Check {
         }
     }
 
+    /** Logs persons in who have their first words still. */
+    static void enter(VouchGate x, int minute, int... persons) {
+        for (int p : persons) {
+            same("login of " + p, x.login(p, 11 * p, (7 * p + 3 * minute) % 10), VouchGate.IN);
+        }
+    }
+
     /** The very class is compared: a machine's exception below the one that is due is a fault. */
     static void throwsOut(String what, Call call) {
         same(what, outcome(call), "throws.IndexOutOfBoundsException");
