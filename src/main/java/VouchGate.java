@@ -439,8 +439,8 @@ public final class VouchGate {
         /** No chain to staff is longer than the persons are many: one that goes on is caught in a ring. */
         int stepsToStaff(int person) {
             int at = person;
-            for (int steps = 0; steps < PERSONS && at != NONE; steps++) {
-                if (at < STAFF) {
+            for (int steps = 0; steps < PERSONS && isPerson(at); steps++) {
+                if (!isGuest(at)) {
                     return steps;
                 }
                 at = hosts[at];
@@ -458,7 +458,7 @@ public final class VouchGate {
             }
             int set = ALL_ROOMS;
             int at = person;
-            for (int steps = 0; steps < PERSONS && at >= STAFF; steps++) {
+            for (int steps = 0; steps < PERSONS && isGuest(at); steps++) {
                 set &= rooms[at];
                 at = hosts[at];
             }
@@ -472,7 +472,7 @@ public final class VouchGate {
         /** A host whose badge is lost taints by vouchings that are bad alone, so lost is not looked at here. */
         private boolean standsOnBadVouching(int person) {
             int at = person;
-            for (int steps = 0; steps < PERSONS && at >= STAFF; steps++) {
+            for (int steps = 0; steps < PERSONS && isGuest(at); steps++) {
                 if (bad[at]) {
                     return true;
                 }

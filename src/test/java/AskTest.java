@@ -11,6 +11,7 @@ public final class AskTest {
         endings();
         constants();
         face();
+        inside();
         Check.report();
     }
 
@@ -101,6 +102,34 @@ public final class AskTest {
         }
         Check.same("the face", seen.toString(), due.toString());
         Check.same("the class", Modifier.toString(VouchGate.class.getModifiers()), "public final");
+    }
+
+    /** LANGUAGE.md, rules 1 and 5: what stands inside is static, static fields are final, and no private name is a public one. */
+    private static void inside() {
+        TreeSet<String> names = new TreeSet<>();
+        for (Method method : VouchGate.class.getDeclaredMethods()) {
+            if (Modifier.isPublic(method.getModifiers())) {
+                names.add(method.getName());
+            }
+        }
+        insideOf(VouchGate.class, names);
+        for (Class<?> inner : VouchGate.class.getDeclaredClasses()) {
+            Check.yes("static: " + inner, Modifier.isStatic(inner.getModifiers()));
+            Check.no("seen from outside: " + inner,
+                Modifier.isPublic(inner.getModifiers()) || Modifier.isProtected(inner.getModifiers()));
+            insideOf(inner, names);
+        }
+    }
+
+    private static void insideOf(Class<?> type, TreeSet<String> names) {
+        for (Method method : type.getDeclaredMethods()) {
+            boolean faces = Modifier.isPublic(method.getModifiers());
+            Check.no("a name of the face: " + method, !faces && names.contains(method.getName()));
+        }
+        for (Field field : type.getDeclaredFields()) {
+            int modifiers = field.getModifiers();
+            Check.no("static and not final: " + field, Modifier.isStatic(modifiers) && !Modifier.isFinal(modifiers));
+        }
     }
 
     private static String described(Method method) {

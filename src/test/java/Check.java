@@ -30,11 +30,21 @@ final class Check {
         }
     }
 
+    static int code(int person, int minute) {
+        return (7 * person + 3 * minute) % 10;
+    }
+
     /** Logs persons in who have their first words still. */
     static void enter(VouchGate x, int minute, int... persons) {
         for (int p : persons) {
-            same("login of " + p, x.login(p, 11 * p, (7 * p + 3 * minute) % 10), VouchGate.IN);
+            same("login of " + p, x.login(p, 11 * p, code(p, minute)), VouchGate.IN);
         }
+    }
+
+    /** A call of word, which answers nothing, with an answer. */
+    static long setWord(VouchGate x, int person, int word) {
+        x.word(person, word);
+        return 0;
     }
 
     /** The very class is compared: a machine's exception below the one that is due is a fault. */

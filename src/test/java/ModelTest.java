@@ -57,7 +57,7 @@ public final class ModelTest {
             hold(where + "pass " + minutes, () -> gate.pass(minutes), () -> model.pass(minutes));
         } else if (kind < 10) {
             int word = number(0, 999);
-            hold(where + "word " + a + " " + word, () -> setWord(a, word), () -> model.word(a, word));
+            hold(where + "word " + a + " " + word, () -> Check.setWord(gate, a, word), () -> model.word(a, word));
         } else if (kind < 17) {
             int guest = number(4, 11);
             int rooms = number(1, 63) | number(1, 63);
@@ -78,11 +78,6 @@ public final class ModelTest {
             hold(where + "share " + key + " " + keepers + " " + threshold,
                 () -> gate.share(key, keepers, threshold), () -> model.share(key, keepers, threshold));
         }
-    }
-
-    private long setWord(int person, int word) {
-        gate.word(person, word);
-        return 0;
     }
 
     private void logIn(String where, int person) {
@@ -133,7 +128,7 @@ public final class ModelTest {
 
     private static long any(VouchGate x, int kind, int a, int b, int c) {
         switch (kind) {
-            case 0: x.word(a, b); return 0;
+            case 0: return Check.setWord(x, a, b);
             case 1: return x.login(a, 11 * a, c % 10);
             case 2: return x.pass(b);
             case 3: return x.vouch(a, b % 12, c);
